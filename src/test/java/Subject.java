@@ -1,0 +1,100 @@
+import java.util.Locale;
+
+/**
+ * An object under test that compares each answer with the one that is due.
+ * It takes a new object before the document's limit of 512 calls, beyond which nothing is promised.
+ */
+final class Subject {
+    private static final int MOST_CALLS = 512;
+    private static final int MOST_SHOWN = 50;
+
+    private final String test;
+    private DecimalText object = new DecimalText();
+    private int calls = 0;
+    private long checks = 0;
+    private long wrong = 0;
+
+    Subject(String test) {
+        this.test = test;
+    }
+
+    void renew() {
+        object = new DecimalText();
+        calls = 0;
+    }
+
+    /** Makes sure that so many calls more are within the limit. */
+    void reserve(int needed) {
+        if (calls + needed > MOST_CALLS) {
+            renew();
+        }
+    }
+
+    void make(long bits, int how, int p, int width, int flags, int want) {
+        calls++;
+        int got = object.make(bits, how, p, width, flags);
+        due(String.format(Locale.ROOT, "make(%dL, %d, %d, %d, %d)", bits, how, p, width, flags), got, want);
+    }
+
+    void at(int i, int want) {
+        calls++;
+        due("at(" + i + ")", object.at(i), want);
+    }
+
+    void digits(long bits, int want) {
+        calls++;
+        due("digits(" + bits + "L)", object.digits(bits), want);
+    }
+
+    /** The text that stands must be this one, to its last character and not further. */
+    void holds(String want) {
+        StringBuilder got = new StringBuilder();
+        for (int i = 0; i < want.length(); i++) {
+            calls++;
+            int code = object.at(i);
+            got.append(code < 0 ? '?' : (char) code);
+        }
+        checks++;
+        if (!got.toString().equals(want)) {
+            tell("the text is \"" + got + "\", due is \"" + want + "\"");
+        }
+        at(want.length(), -1);
+        at(-1, -1);
+    }
+
+    /** Makes a text and reads it whole. */
+    void text(long bits, int how, int p, int width, int flags, String want) {
+        reserve(want.length() + 3);
+        long before = wrong;
+        make(bits, how, p, width, flags, want.length());
+        holds(want);
+        if (wrong > before) {
+            tell("  that was make(" + bits + "L, " + how + ", " + p + ", " + width + ", " + flags + ")");
+        }
+    }
+
+    void text(double value, int how, int p, int width, int flags, String want) {
+        text(Double.doubleToRawLongBits(value), how, p, width, flags, want);
+    }
+
+    void finish() {
+        System.out.println(test + ": " + checks + " checks, " + (wrong == 0 ? "all as due" : wrong + " wrong"));
+        if (wrong != 0) {
+            System.exit(1);
+        }
+    }
+
+    private void due(String call, int got, int want) {
+        checks++;
+        if (got != want) {
+            tell(call + " answered " + got + ", due is " + want);
+        }
+    }
+
+    private void tell(String what) {
+        wrong++;
+        if (wrong <= MOST_SHOWN) {
+            System.out.println(what);
+        }
+    }
+}
