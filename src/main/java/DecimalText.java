@@ -291,7 +291,7 @@ public final class DecimalText {
                 row[i] = 0;
                 i++;
             }
-            if (i < row.length) {
+            if (i >= 0 && i < row.length) {
                 row[i]++;
                 count = Math.max(count, i + 1);
             }
