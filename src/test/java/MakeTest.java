@@ -1,20 +1,10 @@
-/** Promise 2: texts written out, the arguments that are refused, and what happens to the text then. */
+/** Promise 2: ordinary texts, written out, and every set of flags. */
 public final class MakeTest {
-    private static final long ONE = Double.doubleToRawLongBits(1.0);
-
     public static void main(String[] args) {
         Subject subject = new Subject("MakeTest");
         plain(subject);
         withExponent(subject);
-        signs(subject);
-        points(subject);
         everyFlag(subject);
-        widths(subject);
-        infinite(subject);
-        longest(subject);
-        limitsAllowed(subject);
-        refused(subject);
-        refusedKeepsTheText(subject);
         subject.finish();
     }
 
@@ -69,65 +59,6 @@ public final class MakeTest {
         subject.text(0.1, 1, 15, 0, 0, "1.000000000000000e-01");
         subject.text(123456.789, 2, 6, 0, 0, "1.234568E+05");
         subject.text(9.999999e9, 1, 3, 0, 0, "1.000e+10");
-    }
-
-    private static void signs(Subject subject) {
-        subject.text(1.5, 0, 1, 0, 0, "1.5");
-        subject.text(1.5, 0, 1, 0, 2, "+1.5");
-        subject.text(1.5, 0, 1, 0, 4, " 1.5");
-        subject.text(1.5, 0, 1, 0, 6, "+1.5");
-        subject.text(-1.5, 0, 1, 0, 0, "-1.5");
-        subject.text(-1.5, 0, 1, 0, 2, "-1.5");
-        subject.text(-1.5, 0, 1, 0, 4, "-1.5");
-        subject.text(-1.5, 0, 1, 0, 6, "-1.5");
-        subject.text(0.0, 0, 1, 0, 0, "0.0");
-        subject.text(0.0, 0, 1, 0, 2, "+0.0");
-        subject.text(0.0, 0, 1, 0, 4, " 0.0");
-        subject.text(0.0, 0, 1, 0, 6, "+0.0");
-        subject.text(-0.0, 0, 1, 0, 0, "-0.0");
-        subject.text(-0.0, 0, 1, 0, 2, "-0.0");
-        subject.text(-0.0, 0, 1, 0, 4, "-0.0");
-        subject.text(-0.0, 0, 1, 0, 6, "-0.0");
-        subject.text(1.5, 1, 1, 0, 0, "1.5e+00");
-        subject.text(1.5, 1, 1, 0, 2, "+1.5e+00");
-        subject.text(1.5, 1, 1, 0, 4, " 1.5e+00");
-        subject.text(1.5, 1, 1, 0, 6, "+1.5e+00");
-        subject.text(-1.5, 1, 1, 0, 0, "-1.5e+00");
-        subject.text(-1.5, 1, 1, 0, 2, "-1.5e+00");
-        subject.text(-1.5, 1, 1, 0, 4, "-1.5e+00");
-        subject.text(-1.5, 1, 1, 0, 6, "-1.5e+00");
-        subject.text(0.0, 1, 1, 0, 0, "0.0e+00");
-        subject.text(0.0, 1, 1, 0, 2, "+0.0e+00");
-        subject.text(0.0, 1, 1, 0, 4, " 0.0e+00");
-        subject.text(0.0, 1, 1, 0, 6, "+0.0e+00");
-        subject.text(-0.0, 1, 1, 0, 0, "-0.0e+00");
-        subject.text(-0.0, 1, 1, 0, 2, "-0.0e+00");
-        subject.text(-0.0, 1, 1, 0, 4, "-0.0e+00");
-        subject.text(-0.0, 1, 1, 0, 6, "-0.0e+00");
-        subject.text(-0.001, 0, 2, 0, 0, "-0.00");
-        subject.text(-0.001, 0, 2, 0, 2, "-0.00");
-        subject.text(-0.4, 0, 0, 0, 0, "-0");
-    }
-
-    private static void points(Subject subject) {
-        subject.text(0.0, 0, 0, 0, 16, "0.");
-        subject.text(0.0, 0, 1, 0, 16, "0.0");
-        subject.text(0.0, 1, 0, 0, 16, "0.e+00");
-        subject.text(0.0, 1, 1, 0, 16, "0.0e+00");
-        subject.text(0.0, 2, 0, 0, 16, "0.E+00");
-        subject.text(0.0, 2, 1, 0, 16, "0.0E+00");
-        subject.text(12.0, 0, 0, 0, 16, "12.");
-        subject.text(12.0, 0, 1, 0, 16, "12.0");
-        subject.text(12.0, 1, 0, 0, 16, "1.e+01");
-        subject.text(12.0, 1, 1, 0, 16, "1.2e+01");
-        subject.text(12.0, 2, 0, 0, 16, "1.E+01");
-        subject.text(12.0, 2, 1, 0, 16, "1.2E+01");
-        subject.text(-0.5, 0, 0, 0, 16, "-0.");
-        subject.text(-0.5, 0, 1, 0, 16, "-0.5");
-        subject.text(-0.5, 1, 0, 0, 16, "-5.e-01");
-        subject.text(-0.5, 1, 1, 0, 16, "-5.0e-01");
-        subject.text(-0.5, 2, 0, 0, 16, "-5.E-01");
-        subject.text(-0.5, 2, 1, 0, 16, "-5.0E-01");
     }
 
     private static void everyFlag(Subject subject) {
@@ -195,138 +126,5 @@ public final class MakeTest {
         subject.text(-250.0, 1, 0, 10, 29, "-2.e+02   ");
         subject.text(-250.0, 1, 0, 10, 30, "-0002.e+02");
         subject.text(-250.0, 1, 0, 10, 31, "-2.e+02   ");
-    }
-
-    private static void widths(Subject subject) {
-        subject.text(1.5, 0, 1, 1, 0, "1.5");
-        subject.text(1.5, 0, 1, 1, 1, "1.5");
-        subject.text(1.5, 0, 1, 1, 2, "+1.5");
-        subject.text(1.5, 0, 1, 1, 8, "1.5");
-        subject.text(1.5, 0, 1, 1, 10, "+1.5");
-        subject.text(1.5, 0, 1, 3, 0, "1.5");
-        subject.text(1.5, 0, 1, 3, 1, "1.5");
-        subject.text(1.5, 0, 1, 3, 2, "+1.5");
-        subject.text(1.5, 0, 1, 3, 8, "1.5");
-        subject.text(1.5, 0, 1, 3, 10, "+1.5");
-        subject.text(1.5, 0, 1, 4, 0, " 1.5");
-        subject.text(1.5, 0, 1, 4, 1, "1.5 ");
-        subject.text(1.5, 0, 1, 4, 2, "+1.5");
-        subject.text(1.5, 0, 1, 4, 8, "01.5");
-        subject.text(1.5, 0, 1, 4, 10, "+1.5");
-        subject.text(1.5, 0, 1, 5, 0, "  1.5");
-        subject.text(1.5, 0, 1, 5, 1, "1.5  ");
-        subject.text(1.5, 0, 1, 5, 2, " +1.5");
-        subject.text(1.5, 0, 1, 5, 8, "001.5");
-        subject.text(1.5, 0, 1, 5, 10, "+01.5");
-        subject.text(-250.0, 2, 1, 7, 0, "-2.5E+02");
-        subject.text(-250.0, 2, 1, 7, 1, "-2.5E+02");
-        subject.text(-250.0, 2, 1, 7, 2, "-2.5E+02");
-        subject.text(-250.0, 2, 1, 7, 8, "-2.5E+02");
-        subject.text(-250.0, 2, 1, 7, 10, "-2.5E+02");
-        subject.text(-250.0, 2, 1, 8, 0, "-2.5E+02");
-        subject.text(-250.0, 2, 1, 8, 1, "-2.5E+02");
-        subject.text(-250.0, 2, 1, 8, 2, "-2.5E+02");
-        subject.text(-250.0, 2, 1, 8, 8, "-2.5E+02");
-        subject.text(-250.0, 2, 1, 8, 10, "-2.5E+02");
-        subject.text(-250.0, 2, 1, 9, 0, " -2.5E+02");
-        subject.text(-250.0, 2, 1, 9, 1, "-2.5E+02 ");
-        subject.text(-250.0, 2, 1, 9, 2, " -2.5E+02");
-        subject.text(-250.0, 2, 1, 9, 8, "-02.5E+02");
-        subject.text(-250.0, 2, 1, 9, 10, "-02.5E+02");
-        subject.text(-250.0, 2, 1, 10, 0, "  -2.5E+02");
-        subject.text(-250.0, 2, 1, 10, 1, "-2.5E+02  ");
-        subject.text(-250.0, 2, 1, 10, 2, "  -2.5E+02");
-        subject.text(-250.0, 2, 1, 10, 8, "-002.5E+02");
-        subject.text(-250.0, 2, 1, 10, 10, "-002.5E+02");
-    }
-
-    private static void infinite(Subject subject) {
-        subject.text(Double.POSITIVE_INFINITY, 0, 0, 0, 0, "inf");
-        subject.text(Double.POSITIVE_INFINITY, 1, 15, 0, 16, "inf");
-        subject.text(Double.POSITIVE_INFINITY, 0, 0, 0, 2, "+inf");
-        subject.text(Double.POSITIVE_INFINITY, 0, 0, 0, 4, " inf");
-        subject.text(Double.POSITIVE_INFINITY, 0, 2, 3, 0, "inf");
-        subject.text(Double.POSITIVE_INFINITY, 0, 2, 4, 0, " inf");
-        subject.text(Double.POSITIVE_INFINITY, 0, 2, 6, 0, "   inf");
-        subject.text(Double.POSITIVE_INFINITY, 1, 2, 6, 1, "inf   ");
-        subject.text(Double.POSITIVE_INFINITY, 0, 2, 6, 8, "   inf");
-        subject.text(Double.POSITIVE_INFINITY, 0, 2, 6, 9, "inf   ");
-        subject.text(Double.POSITIVE_INFINITY, 0, 2, 6, 10, "  +inf");
-        subject.text(Double.POSITIVE_INFINITY, 0, 2, 6, 12, "   inf");
-        subject.text(Double.NEGATIVE_INFINITY, 0, 0, 0, 0, "-inf");
-        subject.text(Double.NEGATIVE_INFINITY, 1, 15, 0, 16, "-inf");
-        subject.text(Double.NEGATIVE_INFINITY, 0, 0, 0, 2, "-inf");
-        subject.text(Double.NEGATIVE_INFINITY, 0, 0, 0, 4, "-inf");
-        subject.text(Double.NEGATIVE_INFINITY, 0, 2, 3, 0, "-inf");
-        subject.text(Double.NEGATIVE_INFINITY, 0, 2, 4, 0, "-inf");
-        subject.text(Double.NEGATIVE_INFINITY, 0, 2, 6, 0, "  -inf");
-        subject.text(Double.NEGATIVE_INFINITY, 1, 2, 6, 1, "-inf  ");
-        subject.text(Double.NEGATIVE_INFINITY, 0, 2, 6, 8, "  -inf");
-        subject.text(Double.NEGATIVE_INFINITY, 0, 2, 6, 9, "-inf  ");
-        subject.text(Double.NEGATIVE_INFINITY, 0, 2, 6, 10, "  -inf");
-        subject.text(Double.NEGATIVE_INFINITY, 0, 2, 6, 12, "  -inf");
-        subject.text(Double.NEGATIVE_INFINITY, 2, 0, 4, 31, "-inf");
-        subject.text(Double.POSITIVE_INFINITY, 2, 0, 0, 0, "inf");
-    }
-
-    private static void longest(Subject subject) {
-        long bits = Double.doubleToRawLongBits(-Double.MAX_VALUE);
-        String text = new java.math.BigDecimal(-Double.MAX_VALUE).toPlainString() + "." + "0".repeat(15);
-        subject.text(bits, 0, 15, 0, 0, text);
-        subject.text(bits, 0, 15, 326, 8, text);
-        subject.text(bits, 0, 15, 327, 0, " " + text);
-        subject.text(bits, 0, 15, 400, 1, text + " ".repeat(74));
-        subject.text(bits, 0, 15, 400, 8, "-" + "0".repeat(74) + text.substring(1));
-    }
-
-    private static void limitsAllowed(Subject subject) {
-        subject.text(ONE, 0, 0, 0, 0, "1");
-        subject.text(ONE, 2, 15, 0, 0, "1.000000000000000E+00");
-        subject.text(ONE, 0, 0, 400, 0, " ".repeat(399) + "1");
-        subject.text(ONE, 0, 0, 400, 31, "+1." + " ".repeat(397));
-        subject.text(ONE, 2, 15, 400, 30, "+" + "0".repeat(378) + "1.000000000000000E+00");
-    }
-
-    private static void refused(Subject subject) {
-        subject.renew();
-        int[] extremes = {-1, Integer.MIN_VALUE, Integer.MAX_VALUE};
-        for (int wrong : extremes) {
-            subject.make(ONE, wrong, 0, 0, 0, -1);
-            subject.make(ONE, 0, wrong, 0, 0, -1);
-            subject.make(ONE, 0, 0, wrong, 0, -1);
-            subject.make(ONE, 0, 0, 0, wrong, -1);
-        }
-        subject.make(ONE, 3, 0, 0, 0, -1);
-        subject.make(ONE, 0, 16, 0, 0, -1);
-        subject.make(ONE, 0, 0, 401, 0, -1);
-        subject.make(ONE, 0, 0, 0, 32, -1);
-        subject.make(ONE, 0, 0, 0, 33, -1);
-        long infinite = 0x7FF0000000000000L;
-        subject.make(infinite, 3, 0, 0, 0, -1);
-        subject.make(infinite, 0, 16, 0, 0, -1);
-        subject.make(infinite, 0, 0, 401, 0, -1);
-        subject.make(infinite, 0, 0, 0, 32, -1);
-        subject.holds("");
-    }
-
-    private static void refusedKeepsTheText(Subject subject) {
-        long[] noNumbers = {0x7FF0000000000001L, 0x7FF8000000000000L, 0x7FFFFFFFFFFFFFFFL,
-            0xFFF0000000000001L, 0xFFF8000000000000L, 0xFFFFFFFFFFFFFFFFL};
-        subject.renew();
-        subject.make(Double.doubleToRawLongBits(-2.75), 0, 1, 6, 0, 6);
-        for (long bits : noNumbers) {
-            for (int how = 0; how <= 2; how++) {
-                subject.make(bits, how, 2, 9, 2, -1);
-                subject.holds("  -2.8");
-            }
-        }
-        subject.make(ONE, 3, 2, 9, 2, -1);
-        subject.holds("  -2.8");
-        subject.make(ONE, 0, 16, 9, 2, -1);
-        subject.holds("  -2.8");
-        subject.make(ONE, 0, 2, 401, 2, -1);
-        subject.holds("  -2.8");
-        subject.make(ONE, 0, 2, 9, 32, -1);
-        subject.holds("  -2.8");
     }
 }

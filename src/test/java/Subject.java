@@ -7,8 +7,10 @@ import java.util.Locale;
 final class Subject {
     private static final int MOST_CALLS = 512;
     private static final int MOST_SHOWN = 50;
+    private static final long MOST_MILLISECONDS = 300_000;
 
     private final String test;
+    private String sentence = "";
     private DecimalText object = new DecimalText();
     private int calls = 0;
     private long checks = 0;
@@ -16,6 +18,15 @@ final class Subject {
 
     Subject(String test) {
         this.test = test;
+        Thread watch = new Thread(this::failIfItNeverEnds);
+        watch.setDaemon(true);
+        watch.start();
+    }
+
+    /** Names the words of the document that the checks from here on are about; they begin on a new object. */
+    void sentence(String words) {
+        sentence = words;
+        renew();
     }
 
     void renew() {
@@ -31,18 +42,26 @@ final class Subject {
     }
 
     void make(long bits, int how, int p, int width, int flags, int want) {
-        calls++;
+        countCall();
         int got = object.make(bits, how, p, width, flags);
         due(String.format(Locale.ROOT, "make(%dL, %d, %d, %d, %d)", bits, how, p, width, flags), got, want);
     }
 
     void at(int i, int want) {
-        calls++;
+        countCall();
         due("at(" + i + ")", object.at(i), want);
     }
 
+    void make(double value, int how, int p, int width, int flags, int want) {
+        make(Double.doubleToRawLongBits(value), how, p, width, flags, want);
+    }
+
+    void digits(double value, int want) {
+        digits(Double.doubleToRawLongBits(value), want);
+    }
+
     void digits(long bits, int want) {
-        calls++;
+        countCall();
         due("digits(" + bits + "L)", object.digits(bits), want);
     }
 
@@ -50,7 +69,7 @@ final class Subject {
     void holds(String want) {
         StringBuilder got = new StringBuilder();
         for (int i = 0; i < want.length(); i++) {
-            calls++;
+            countCall();
             int code = object.at(i);
             got.append(code < 0 ? '?' : (char) code);
         }
@@ -84,6 +103,24 @@ final class Subject {
         }
     }
 
+    private void countCall() {
+        calls++;
+        if (calls > MOST_CALLS) {
+            throw new IllegalStateException("the test makes more than " + MOST_CALLS + " calls on one object");
+        }
+    }
+
+    /** A call that never ends must fail the test, not hold it up. */
+    private void failIfItNeverEnds() {
+        try {
+            Thread.sleep(MOST_MILLISECONDS);
+        } catch (InterruptedException e) {
+            return;
+        }
+        System.out.println(test + ": not at its end after " + MOST_MILLISECONDS + " ms");
+        Runtime.getRuntime().halt(1);
+    }
+
     private void due(String call, int got, int want) {
         checks++;
         if (got != want) {
@@ -91,10 +128,10 @@ final class Subject {
         }
     }
 
-    private void tell(String what) {
+    void tell(String what) {
         wrong++;
         if (wrong <= MOST_SHOWN) {
-            System.out.println(what);
+            System.out.println((sentence.isEmpty() ? "" : "[" + sentence + "] ") + what);
         }
     }
 }
