@@ -20,16 +20,23 @@ public final class FaceTest {
                 "public int DecimalText.make(long,int,int,int,int)",
                 "public int DecimalText.at(int)",
                 "public int DecimalText.digits(long)")));
+        noStaticState(face);
         for (Class<?> inside : face.getDeclaredClasses()) {
             due(inside + " is static", Modifier.isStatic(inside.getModifiers()), true);
-        }
-        for (Field field : face.getDeclaredFields()) {
-            boolean fixed = !Modifier.isStatic(field.getModifiers()) || Modifier.isFinal(field.getModifiers());
-            due(field + " is no static state", fixed, true);
+            due(inside + " is open", Modifier.isPublic(inside.getModifiers()), false);
+            due(inside + " is half open", Modifier.isProtected(inside.getModifiers()), false);
+            noStaticState(inside);
         }
         System.out.println("FaceTest: " + (wrong == 0 ? "all as due" : wrong + " wrong"));
         if (wrong != 0) {
             System.exit(1);
+        }
+    }
+
+    private static void noStaticState(Class<?> owner) {
+        for (Field field : owner.getDeclaredFields()) {
+            boolean fixed = !Modifier.isStatic(field.getModifiers()) || Modifier.isFinal(field.getModifiers());
+            due(field + " is no static state", fixed, true);
         }
     }
 

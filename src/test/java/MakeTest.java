@@ -9,6 +9,7 @@ public final class MakeTest {
     }
 
     private static void plain(Subject subject) {
+        subject.sentence("Makes the text of a double: how 0 plain");
         subject.text(0.0, 0, 0, 0, 0, "0");
         subject.text(0.0, 0, 2, 0, 0, "0.00");
         subject.text(1.0, 0, 0, 0, 0, "1");
@@ -36,6 +37,7 @@ public final class MakeTest {
     }
 
     private static void withExponent(Subject subject) {
+        subject.sentence("Makes the text of a double: 1 with e, 2 with E");
         subject.text(1.0, 1, 0, 0, 0, "1e+00");
         subject.text(9.5, 1, 0, 0, 0, "1e+01");
         subject.text(8.5, 1, 0, 0, 0, "8e+00");
@@ -62,6 +64,7 @@ public final class MakeTest {
     }
 
     private static void everyFlag(Subject subject) {
+        subject.sentence("flags: 1 blanks behind, 2 \"+\", 4 a blank as sign, 8 zeros, 16 a point always");
         subject.text(1.5, 0, 0, 8, 0, "       2");
         subject.text(1.5, 0, 0, 8, 1, "2       ");
         subject.text(1.5, 0, 0, 8, 2, "      +2");

@@ -73,10 +73,7 @@ final class Subject {
             int code = object.at(i);
             got.append(code < 0 ? '?' : (char) code);
         }
-        checks++;
-        if (!got.toString().equals(want)) {
-            tell("the text is \"" + got + "\", due is \"" + want + "\"");
-        }
+        same("the text", got.toString(), want);
         at(want.length(), -1);
         at(-1, -1);
     }
@@ -94,6 +91,13 @@ final class Subject {
 
     void text(double value, int how, int p, int width, int flags, String want) {
         text(Double.doubleToRawLongBits(value), how, p, width, flags, want);
+    }
+
+    void same(String what, Object got, Object want) {
+        checks++;
+        if (!got.equals(want)) {
+            tell(what + ": <" + got + ">, due is <" + want + ">");
+        }
     }
 
     void finish() {
